@@ -26,6 +26,8 @@ public final class ArrowsTest {
         Check.due("24 no round then", false, () -> x.arrow(5, 0, true));
         Check.index("24 node 6", () -> x.arrow(6, 6, true));
         Check.index("24 node -1", () -> x.arrow(0, -1, true));
+        Check.index("24 to node 6", () -> x.arrow(0, 6, false));
+        Check.index("24 from node -1", () -> x.arrow(-1, 0, true));
         Check.argument("24 the same", () -> x.arrow(3, 3, true));
         Check.argument("24 the same, away", () -> x.arrow(3, 3, false));
         Check.due("26 three arrows", 3, x::keep);
@@ -51,6 +53,8 @@ public final class ArrowsTest {
         Check.due("25 fork, shut", true, () -> x.isSeparated(3, 5, 4));
         Check.index("25 node 6", () -> x.isSeparated(6, 6, -1));
         Check.index("25 node -1", () -> x.isSeparated(0, -1, 0));
+        Check.index("25 to node 6", () -> x.isSeparated(0, 6, 0));
+        Check.index("25 from node -1", () -> x.isSeparated(-1, 0, 0));
         Check.argument("25 the same", () -> x.isSeparated(1, 1, 0));
         Check.argument("25 set 64", () -> x.isSeparated(0, 1, 64));
         Check.argument("25 set -1", () -> x.isSeparated(0, 1, -1));
