@@ -443,7 +443,8 @@ public final class Model {
     public int ingleton(boolean areTold) {
         int value = 0;
         for (int set = 1; set < 16; set++) {
-            int sign = set == 12 ? -1 : Integer.bitCount(set) == 2 ? 1 : set == 1 || set == 2 || set == 7 || set == 11 ? -1 : 0;
+            boolean isLess = List.of(1, 2, 12, 7, 11).contains(set);
+            int sign = isLess ? -1 : Integer.bitCount(set) == 2 ? 1 : 0;
             value += sign * (areTold ? told[set] : rank(set));
         }
         return value;
