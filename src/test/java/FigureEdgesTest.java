@@ -133,6 +133,12 @@ public final class FigureEdgesTest {
             Edges.due("61 a law that holds", true, x -> x.factor(set, 9), Entropiary::isSound);
         }
         Edges.due("61 an Ingleton value told below 0", true, x -> x.setRank(1, 9), Entropiary::isSound);
+        Edges.Use above = x -> x.vector(0, 8) + x.vector(1, 4) + x.vector(2, 12);
+        Edges.due("23 an Ingleton value by vectors above 0", 1, above, x -> x.ingleton(false));
+        Edges.due("61 an Ingleton value by vectors above 0", true, above, Entropiary::isSound);
+        Edges.Use below = x -> x.factor(1, -1);
+        Edges.due("16 a law just below 0", -1, below, x -> x.worst(1));
+        Edges.due("61 a law just below 0", true, below, Entropiary::isSound);
         for (int i = 1; i <= 6; i++) {
             int many = i;
             Edges.due("61 inputs: " + i, true, x -> x.inputs(many), Entropiary::isSound);

@@ -35,6 +35,8 @@ public final class TableEdgesTest {
         Edges.due("1 the cell 0", 0, Edges.NEW, x -> x.weigh(0, 1));
         Edges.due("1 the cell 1", 0, Edges.NEW, x -> x.weigh(1, 1));
         Edges.refused("1 no cell 2", Edges.INDEX, Edges.NEW, x -> x.weigh(2, 1));
+        Edges.refused("1 two values: the row 1", Edges.UNSUPPORTED, Edges.NEW, x -> x.chanceOver(1, 1));
+        Edges.refused("1 two values: no row 2", Edges.INDEX, Edges.NEW, x -> x.chanceOver(1, 2));
         Edges.due("1 no weight", 0.0f, Edges.NEW, Entropiary::weightShare);
         for (int i = 1; i < 8; i++) {
             int set = i;
