@@ -160,6 +160,16 @@ public final class ArrowEdgesTest {
         Edges.Use fork = x -> x.arrow(2, 0, true) | x.arrow(2, 1, true);
         Edges.due("25 away from it on both sides", false, fork, x -> x.isSeparated(0, 1, 0));
         Edges.due("25 away from it on both sides, in the set", true, fork, x -> x.isSeparated(0, 1, 4));
+        for (int i = 0; i < NODES; i++) {
+            int midst = i;
+            int a = (i + 1) % NODES;
+            int b = (i + 2) % NODES;
+            Edges.Use point = x -> x.arrow(a, midst, true) | x.arrow(b, midst, true);
+            Edges.due("25 arrows that point to " + i, true, point, x -> x.isSeparated(a, b, 0));
+            Edges.due("25 arrows that point to " + i + ", in it", false, point, x -> x.isSeparated(a, b, 1 << midst));
+            int others = 63 & ~(1 << a | 1 << b | 1 << midst);
+            Edges.due("25 arrows that point to " + i + ", others", true, point, x -> x.isSeparated(a, b, others));
+        }
         // A second way round: one open way is enough.
         Edges.Use twice = Edges.after(fork, x -> x.arrow(0, 3, true) | x.arrow(1, 3, true));
         Edges.due("25 one way shut", false, twice, x -> x.isSeparated(0, 1, 0));
@@ -294,6 +304,15 @@ public final class ArrowEdgesTest {
         Edges.due("30 one variable has no parts", false, x -> x.tie(1, 2, 0), x -> x.follows(1, 2, 4));
         Edges.due("30 no more than told", false, x -> x.tie(1, 2, 0), x -> x.follows(1, 6, 0));
         Edges.due("30 less told before", false, x -> x.tie(1, 2, 4), x -> x.follows(1, 2, 0));
+        for (int i = 0; i < 4; i++) {
+            int one = 1 << i;
+            int a = 1 << (i + 1) % 4;
+            int b = 1 << (i + 2) % 4;
+            Edges.due("30 c empty, told with " + one, false, x -> x.tie(a, b, one), x -> x.follows(a, b, 0));
+            Edges.due("30 c " + one + ", told without", false, x -> x.tie(a, b, 0), x -> x.follows(a, b, one));
+            Edges.due("30 a part may be told before", true, x -> x.tie(a, b | one, 0), x -> x.follows(a, b, one));
+            Edges.due("30 nothing else may be", false, x -> x.tie(a, 15 & ~(a | one), 0), x -> x.follows(a, b, one));
+        }
         Edges.Use both = x -> x.tie(1, 2, 12) + x.tie(1, 4, 8);
         Edges.due("30 joined", true, both, x -> x.follows(1, 6, 8));
         Edges.due("30 joined and parted", true, both, x -> x.follows(1, 2, 8));

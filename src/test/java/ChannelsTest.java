@@ -6,6 +6,8 @@ public final class ChannelsTest {
         cliques();
         receivers();
         broadcasts();
+        allSmallGraphs();
+        allReceivers();
         Check.end();
     }
 
@@ -111,5 +113,48 @@ public final class ChannelsTest {
             x.knows(receiver, 15 & ~((1 << receiver + 1) - 1));
         }
         Check.due("57 each knows all later ones", 4, x::broadcasts);
+    }
+
+    /** All graphs of up to 5 inputs, and some of those of 6. */
+    private static void allSmallGraphs() {
+        for (int inputs = 1; inputs <= 6; inputs++) {
+            int graphs = 1 << inputs * (inputs - 1) / 2;
+            for (int graph = 0; graph < graphs; graph += inputs < 6 ? 1 : 61) {
+                Entropiary x = new Entropiary();
+                Model model = new Model();
+                x.inputs(inputs);
+                model.inputs(inputs);
+                for (int pair = 0, low = 0; low < inputs; low++) {
+                    for (int high = low + 1; high < inputs; high++, pair++) {
+                        x.confuse(low, high, (graph >> pair & 1) != 0);
+                        model.confuse(low, high, (graph >> pair & 1) != 0);
+                    }
+                }
+                String name = "graph " + graph + " of " + inputs;
+                Check.due("53 " + name, model.apart(1), () -> x.apart(1));
+                Check.due("53 " + name + ", pairs", model.apart(2), () -> x.apart(2));
+                Check.due("54 " + name, model.cliques(), x::cliques);
+            }
+        }
+    }
+
+    /** All that up to 4 receivers may know. */
+    private static void allReceivers() {
+        for (int receivers = 1; receivers <= 4; receivers++) {
+            for (int known = 0; known < 1 << receivers * (receivers - 1); known++) {
+                Entropiary x = new Entropiary();
+                Model model = new Model();
+                x.receivers(receivers);
+                model.receivers(receivers);
+                for (int receiver = 0; receiver < receivers; receiver++) {
+                    int others = known >> receiver * (receivers - 1) & (1 << receivers - 1) - 1;
+                    int below = (1 << receiver) - 1;
+                    int set = others & below | (others & ~below) << 1;
+                    x.knows(receiver, set);
+                    model.knows(receiver, set);
+                }
+                Check.due("57 of " + receivers + " receivers " + known, model.broadcasts(), x::broadcasts);
+            }
+        }
     }
 }

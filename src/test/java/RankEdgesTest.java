@@ -88,6 +88,20 @@ public final class RankEdgesTest {
         judge("three pairs and twice all", law(0, 0, 1, 0, 1, 1, -2), 0, 0);
         judge("three pairs and twice all, less one", law(-1, 0, 1, 0, 1, 1, -2), -1, -2);
         judge("what all three have in common, lost", law(-1, -1, 1, -1, 1, 1, -1), -1, -2);
+        lawsOfOthers();
+    }
+
+    /** Each single variable without rank, each pair as much as all, and each variable as what two pairs have. */
+    private static void lawsOfOthers() {
+        judge("0 without rank", law(9, 0, -1, 0, 0, 0, 0), -1, -2);
+        judge("1 without rank", law(0, 9, 0, 0, 0, -1, 0), -1, -2);
+        judge("2 without rank", law(0, 0, 0, 9, -1, 0, 0), -1, -2);
+        judge("all have as much as 0 2", law(0, 0, 0, 0, -1, 0, 1), 0, 0);
+        judge("all have as much as 1 2", law(0, 0, 0, 0, 0, -1, 1), 0, 0);
+        judge("two pairs with 1", law(0, -1, 1, 0, 0, 1, -1), 0, 0);
+        judge("two pairs with 2", law(0, 0, 0, -1, 1, 1, -1), 0, 0);
+        judge("two pairs, twice 1", law(0, -2, 1, 0, 0, 1, -1), -1, -2);
+        judge("two pairs, twice 2", law(0, 0, 0, -2, 1, 1, -1), -1, -2);
     }
 
     private static void primes() {
@@ -249,6 +263,12 @@ public final class RankEdgesTest {
         Edges.due("23 the least told", -45, least, x -> x.ingleton(true));
         Edges.due("23 vectors are not told", 0, greatest, x -> x.ingleton(false));
         Edges.due("23 told are not vectors", 0, CROWDED, x -> x.ingleton(true));
+        for (int i = 0; i < 5; i++) {
+            int pair = pairs[i];
+            int other = others[i];
+            Edges.due("23 the pair " + pair + " alone", 9, x -> x.setRank(pair, 9), x -> x.ingleton(true));
+            Edges.due("23 the set " + other + " alone", -9, x -> x.setRank(other, 9), x -> x.ingleton(true));
+        }
         int[] neither = {4, 8, 13, 14, 15};
         for (int set : neither) {
             Edges.due("23 the rank of " + set + " does not count", 0, x -> x.setRank(set, 9), x -> x.ingleton(true));

@@ -112,7 +112,7 @@ public final class RanksTest {
         }
         Check.none("22 all free", x::broken);
         x.setRank(3, 1);
-        // The set 1 of the pair 0 2 stands as law 4 + 4 + 1: with it 0 has 1 and 2 has 2, but both have 3, and it alone has 1.
+        // The pair 0 2 with the set of 1 is law 4 + 4 + 1: with it 0 has 1 and 2 has 2, but both have 3, it alone 1.
         Check.due("22 two alike", 9, x::broken);
     }
 

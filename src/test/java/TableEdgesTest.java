@@ -24,6 +24,7 @@ public final class TableEdgesTest {
         setsOfTwo();
         nothingThere();
         partsAtEdges();
+        chainsOfParts();
         classesAtEdges();
         guessesAtEdges();
         Check.end();
@@ -333,6 +334,43 @@ public final class TableEdgesTest {
         Edges.due("7 one row, without variables", true, Edges.after(LARGE, x -> x.weigh(0, 0)), x -> x.isTold(15, 0));
     }
 
+    /** Cells that are not there join nothing; a part may be held together by as long a chain as there are rows. */
+    private static void chainsOfParts() {
+        Edges.Use apart = x -> {
+            x.table(2, 2);
+            return x.weigh(0, 1) + x.weigh(3, 1);
+        };
+        Edges.due("8 a weight of 0 joins nothing", 2, apart, x -> x.parts(1, 2));
+        Edges.due("9 a weight of 0 joins nothing", 1, apart, x -> x.partOf(1, 2, 1));
+        Edges.Use joined = Edges.after(apart, x -> x.weigh(1, 1));
+        Edges.due("8 a weight of 1 joins", 1, joined, x -> x.parts(1, 2));
+        Edges.due("9 a weight of 1 joins", 0, joined, x -> x.partOf(1, 2, 1));
+        for (int i = 0; i <= 8; i++) {
+            int gap = i;
+            Edges.Use chain = x -> layChain(x, gap);
+            Edges.due("8 a chain with a gap at " + i, gap < 8 ? 2 : 1, chain, x -> x.parts(3, 12));
+            Edges.due("8 the other way, a gap at " + i, gap < 8 ? 2 : 1, chain, x -> x.parts(12, 3));
+            for (int j = 0; j < 9; j++) {
+                int row = j;
+                boolean isBefore = gap < 8 && 8 - row <= gap;
+                Edges.due("9 a chain with a gap at " + i, isBefore ? 1 : 0, chain, x -> x.partOf(3, 12, row));
+            }
+        }
+    }
+
+    /** Nine rows of each of two sets; the chain begins with the highest row of the first one, and has a gap or none. */
+    private static Object layChain(Entropiary x, int gap) {
+        x.table(VARIABLES, 3);
+        for (int place = 0; place < 9; place++) {
+            int row = 8 - place;
+            x.weigh(9 * row + place, 1);
+            if (place > 0 && place - 1 != gap) {
+                x.weigh(9 * row + place - 1, 1);
+            }
+        }
+        return null;
+    }
+
     private static void classesAtEdges() {
         Edges.due("10 about no variables", 1, LARGE, x -> x.classes(15, 0));
         Edges.due("10 of no variables", 1, LARGE, x -> x.classes(0, 15));
@@ -346,6 +384,12 @@ public final class TableEdgesTest {
             };
             Edges.due("10 rows 1 2 and 2 " + last, last == 4 ? 1 : 2, four, x -> x.classes(1, 2));
         }
+        Edges.Use light = x -> {
+            x.table(2, 2);
+            return x.weigh(0, 1) + x.weigh(2, 1);
+        };
+        Edges.due("10 two rows of weight 1", 1, light, x -> x.classes(1, 2));
+        Edges.due("10 one row of weight 1", 1, light, x -> x.classes(2, 1));
         Edges.due("10 a row that is not there", 2, Edges.FULL, x -> x.classes(1, 2));
     }
 
